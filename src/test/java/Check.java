@@ -31,9 +31,17 @@ final class Check {
         try {
             call.run();
         } catch (RuntimeException e) {
-            got = e.getClass().getName();
+            got = nameOf(e);
         }
         note(got.equals(want.getName()), what, "threw " + got + ", due is " + want.getName());
+    }
+
+    /** An exception that was not thrown in one of the trails themselves is told as such: it is never due. */
+    static String nameOf(RuntimeException e) {
+        StackTraceElement[] frames = e.getStackTrace();
+        String thrower = frames.length == 0 ? "" : frames[0].getClassName();
+        boolean isOwn = thrower.startsWith("Exlibristrail") || thrower.startsWith("PlainTrail");
+        return e.getClass().getName() + (isOwn ? "" : " of the library");
     }
 
     static void close() {

@@ -52,7 +52,7 @@ public final class FuzzTest {
         try {
             return String.valueOf(answer.ask());
         } catch (RuntimeException e) {
-            return e.getClass().getName();
+            return Check.nameOf(e);
         }
     }
 
