@@ -173,11 +173,13 @@ public final class FuzzTest {
                 return pair("system(" + b + ", " + system + ")", () -> trail.system(b, system),
                         () -> plain.system(b, system));
             case 2:
-                return pair("rebind(" + a + ", " + year + ")", () -> trail.rebind(a, year), () -> plain.rebind(a, year));
+                return pair("rebind(" + a + ", " + year + ")", () -> trail.rebind(a, year),
+                        () -> plain.rebind(a, year));
             case 3:
                 return pair("wash(" + m + ")", () -> trail.wash(m), () -> plain.wash(m));
             case 4:
-                return pair("withdraw(" + m + ", " + is + ")", () -> trail.withdraw(m, is), () -> plain.withdraw(m, is));
+                return pair("withdraw(" + m + ", " + is + ")", () -> trail.withdraw(m, is),
+                        () -> plain.withdraw(m, is));
             case 5:
             case 6:
                 return pair("confirm(" + l + ", " + a + ")", () -> trail.confirm(l, a), () -> plain.confirm(l, a));
@@ -221,7 +223,8 @@ public final class FuzzTest {
             case 9:
                 return pair("claimant(" + a + ")", () -> trail.claimant(a), () -> plain.claimant(a));
             case 10:
-                return pair("holder(" + a + ", " + year + ")", () -> trail.holder(a, year), () -> plain.holder(a, year));
+                return pair("holder(" + a + ", " + year + ")", () -> trail.holder(a, year),
+                        () -> plain.holder(a, year));
             case 11:
                 return pair("cost(" + a + ")", () -> trail.cost(a), () -> plain.cost(a));
             case 12:
