@@ -142,6 +142,8 @@ public final class BoundsTest {
                 new Row("match", NO_SUCH, NONE).takes("0", "1", "2", "3").refusesOutside(LOTS).refuses(NONE, "4"),
                 new Row("confirm", NO_SUCH, UNFIT).takes("1").refusesOutside(LOTS).refuses(UNFIT, "2", "4").takes("0")
                         .refusesOutside(COPIES).refuses(UNFIT, "1", "2", "3"),
+                new Row("confirm", NO_SUCH, UNFIT).takes("0").refusesOutside(LOTS).takes("0", "1")
+                        .refusesOutside(COPIES).refuses(UNFIT, "2", "3"),
                 new Row("reopen", NO_SUCH, UNFIT).takes("0").refusesOutside(LOTS).refuses(UNFIT, "1", "2", "3", "4"),
                 new Row("dearest", NO_SUCH, NONE).takes("1").refusesOutside(COPIES).refuses(NONE, "0", "2", "3"),
                 new Row("theft", NO_SUCH, WRONG, UNFIT).takes("1").refusesOutside(COPIES).refuses(UNFIT, "0", "2")
@@ -211,6 +213,7 @@ public final class BoundsTest {
     private static void tryTaken(String call) {
         Run run = Run.of(call, Trails.ROOMY);
         Run plain = new Run(call + " of the plain trail", new PlainTrail()).then(Trails.ROOMY);
+        Check.is(call + ", the chains ahead of it", run.answer("checksum()"), plain.answer("checksum()"));
         String got = run.answer(call);
         Check.is(call + " is taken", got.startsWith("throws "), false);
         Check.is(call, got, plain.answer(call));
